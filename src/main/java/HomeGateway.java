@@ -91,8 +91,6 @@ public final class HomeGateway {
         if (error != 0) {
             return error;
         }
-        // The packets of the old queues stay where they are, since undo may bring them back.
-        draft.packetsUsed = current.packetsUsed;
         history.save(current);
         current.copyFrom(draft);
         return current.deviceCount;
@@ -358,14 +356,15 @@ public final class HomeGateway {
     }
 
     /**
-     * The packets that have ever been put into a queue, in the order of their coming. A queue is a
-     * chain of them. A packet never changes while a gateway that can still be had knows of it, so
-     * the copies for undo and for drainTime share this one store.
+     * The packets that have ever been put into a queue, in the order of their coming; a queue is a
+     * chain of them. None is ever taken out, so the queues that undo brings back and those that
+     * drainTime plays with share this one store.
      */
     private static final class PacketStore {
         private final int[] sizes;
         private final int[] arrivals;
         private final int[] followers;
+        private int count;
 
         PacketStore() {
             sizes = new int[MAX_PACKETS];
@@ -373,15 +372,23 @@ public final class HomeGateway {
             followers = new int[MAX_PACKETS];
         }
 
-        boolean holds(int packet) {
-            return packet >= 0 && packet < MAX_PACKETS;
+        boolean isFull() {
+            return count >= MAX_PACKETS;
         }
 
-        void put(int packet, int size, int arrival) {
-            if (holds(packet)) {
-                sizes[packet] = size;
-                arrivals[packet] = arrival;
+        private boolean holds(int packet) {
+            return packet >= 0 && packet < count;
+        }
+
+        /** Answers the number of the new packet, or -1 if there is no room for it. */
+        int put(int size, int arrival) {
+            if (isFull()) {
+                return -1;
             }
+            sizes[count] = size;
+            arrivals[count] = arrival;
+            count++;
+            return count - 1;
         }
 
         void link(int packet, int follower) {
@@ -704,7 +711,6 @@ public final class HomeGateway {
         int rejected;
         int proxied;
         int dropped;
-        int packetsUsed;
 
         Gateway(PacketStore sharedPackets) {
             packets = sharedPackets;
@@ -740,7 +746,6 @@ public final class HomeGateway {
             rejected = other.rejected;
             proxied = other.proxied;
             dropped = other.dropped;
-            packetsUsed = other.packetsUsed;
         }
 
         void startAnew() {
@@ -758,7 +763,6 @@ public final class HomeGateway {
             rejected = 0;
             proxied = 0;
             dropped = 0;
-            packetsUsed = 0;
         }
 
         void addDevice(int group, int weight, int wakeDelay, int patience) {
@@ -784,7 +788,7 @@ public final class HomeGateway {
             return false;
         }
 
-        /** Equal hours make no hour quiet, which is also how a group without a statement is kept. */
+        /** Equal hours make no hour quiet: so it is for a group without a statement. */
         void setQuiet(int group, int from, int to) {
             if (group >= 0 && group < DEVICE_GROUPS) {
                 quietFrom[group] = from;
@@ -867,7 +871,7 @@ public final class HomeGateway {
         }
 
         int take(int from, int to, int port, int size) {
-            if (judge(from, to, port) != ALLOWED || !hasDevice(to)) {
+            if (judge(from, to, port) != ALLOWED) {
                 rejected++;
                 return REJECTED;
             }
@@ -876,16 +880,14 @@ public final class HomeGateway {
                 proxied++;
                 return PROXIED;
             }
-            if (receiver.backlog + size > limit || !packets.holds(packetsUsed)) {
+            if (receiver.backlog + size > limit || packets.isFull()) {
                 dropped++;
                 return DROPPED;
             }
             if (receiver.queued == 0) {
                 receiver.virtualTime = Math.max(receiver.virtualTime, leastVirtualTime());
             }
-            packets.put(packetsUsed, size, clock);
-            receiver.enqueue(packets, packetsUsed);
-            packetsUsed++;
+            receiver.enqueue(packets, packets.put(size, clock));
             if (receiver.state == ASLEEP) {
                 receiver.startWaking();
             }
@@ -1122,7 +1124,10 @@ public final class HomeGateway {
                 number = Math.min(10 * number + byteAt(position) - '0', TOO_LARGE);
                 position++;
             }
-            return low <= number && number <= high || fail(OUT_OF_RANGE);
+            if (number < low || number > high) {
+                return fail(OUT_OF_RANGE);
+            }
+            return true;
         }
 
         /** Answers the selector that the next word names, or -1 if it names none. */

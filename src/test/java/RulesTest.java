@@ -174,6 +174,8 @@ public final class RulesTest {
             odd.append("allow net any ").append(10 * i + 1).append(' ').append(10 * i + 5).append(';');
         }
         Check.same("22 twelve ranges", Check.loaded(odd.toString()).openPorts(-1, 0), 60);
+        String denied = odd.toString().replace("allow net", "deny any");
+        Check.same("22 all but twelve ranges", Check.loaded(denied).openPorts(0, 0), 940);
     }
 
     private static void addRule() {

@@ -444,5 +444,20 @@ public final class TrafficTest {
         Check.same("7 clock", x.clock(), 50000);
         x.tick(99);
         Check.yes("18 hour 99", x.isQuiet(0));
+        clockHasAnEnd();
+    }
+
+    /** No run of 512 calls comes this far; the promise is kept all the same. */
+    private static void clockHasAnEnd() {
+        HomeGateway x = Check.loaded("gateway 1 100;");
+        for (int i = 1; i < 1000; i++) {
+            x.tick(100);
+        }
+        x.tick(99);
+        Check.state("26 100001", () -> x.tick(2));
+        Check.same("26 100000", x.tick(1), 0);
+        Check.state("26 100001", () -> x.tick(1));
+        Check.argument("26 ticks 0", () -> x.tick(0));
+        Check.same("7 clock", x.clock(), 100000);
     }
 }
