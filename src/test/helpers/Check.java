@@ -9,23 +9,25 @@ final class Check {
     private static final int APPEND_BYTES = 20;
     private static int wrong = 0;
     private static int looked = 0;
+    private static String sentence = "";
 
     private Check() {
     }
 
+    /** The document's sentence that the answers from here on are about; it is printed with a wrong one. */
+    static void sentence(String words) {
+        sentence = "\"" + words + "\": ";
+    }
+
     static void same(String what, long got, long want) {
-        looked++;
-        if (got != want) {
-            wrong++;
-            System.out.println(what + " answered " + got + ", due is " + want);
-        }
+        same(what, String.valueOf(got), String.valueOf(want));
     }
 
     static void same(String what, String got, String want) {
         looked++;
         if (!got.equals(want)) {
             wrong++;
-            System.out.println(what + " answered " + got + ", due is " + want);
+            System.out.println(sentence + what + " answered " + got + ", due is " + want);
         }
     }
 
