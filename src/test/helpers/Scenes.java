@@ -1,8 +1,8 @@
 /** Objects in states that the tests of refused calls begin from. */
 final class Scenes {
     /** Four devices, two rules; 9 is the wake port. */
-    static final String HOUSE = "gateway 5 6;device home 2 1 9;device guest 1 0 3;device iot 3 2 0;"
-            + "device guest 1 3 0;allow net any 80 90;deny iot home 0 999;wake 9;quiet guest 2 0;limit 40;";
+    static final String HOUSE = "gateway 7 6;device home 2 1 9;device guest 1 0 3;device iot 3 2 0;"
+            + "device guest 1 3 4;allow net any 80 90;deny iot home 0 999;wake 9;quiet guest 2 0;limit 40;";
     static final int DEVICES = 4;
     static final int RULES = 2;
     /** Waits in the buffer of every scene. */
@@ -38,7 +38,7 @@ final class Scenes {
 
     /**
      * Eight changes can be undone, and more were made. Device 0 is awake with packets, 1 asleep,
-     * 2 waking, 3 idle for a while.
+     * 2 waking with a packet, 3 idle for one tick.
      */
     static HomeGateway busy() {
         HomeGateway x = Check.loaded(HOUSE);

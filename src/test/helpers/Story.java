@@ -14,7 +14,8 @@ final class Story {
     }
 
     private static final int SPACES = 0x20202020;
-    private static final int TICKS = 14;
+    /** Few enough for ten devices: an object answers no more than 512 calls. */
+    private static final int TICKS = 10;
 
     private Story() {
     }
@@ -42,7 +43,7 @@ final class Story {
         Check.same(what, outcome(scene.make(), call), String.valueOf(answer));
         Scene asked = after(scene, call);
         Check.same(what + ": the past", past(asked.make()), past(scene.make()));
-        Check.same(what + ": the future", future(asked.make()), future(scene.make()));
+        Check.same(what + ": the future", futures(asked), futures(scene));
     }
 
     static String outcome(HomeGateway x, Call call) {
@@ -58,14 +59,15 @@ final class Story {
     }
 
     static String told(Scene scene) {
-        return past(scene.make()) + " | " + future(scene.make()) + " | " + input(scene.make());
+        return past(scene.make()) + " | " + futures(scene) + " | " + input(scene.make());
     }
 
     /** What can be asked without a change, but for the error offset. */
     static String now(HomeGateway x) {
+        int devices = x.deviceCount();
         StringBuilder text = new StringBuilder();
-        text.append(x.checksum()).append(' ').append(x.deviceCount()).append(' ').append(x.ruleCount());
-        for (int i = 0; i < x.deviceCount(); i++) {
+        text.append(x.checksum()).append(' ').append(devices).append(' ').append(x.ruleCount());
+        for (int i = 0; i < devices; i++) {
             text.append(' ').append(x.queueLength(i)).append(' ').append(x.longestDelay(i));
         }
         text.append(x.isQuiet(0) ? " q" : " -").append(x.isQuiet(1) ? 'q' : '-').append(x.isQuiet(2) ? 'q' : '-');
@@ -80,20 +82,33 @@ final class Story {
         return text.toString();
     }
 
-    /** Packets show the limit, the wake ports and the rules; ticks show all that waits for its time. */
-    static String future(HomeGateway x) {
+    /** What comes if nobody does anything, and what if many packets come. */
+    static String futures(Scene scene) {
+        return ticks(scene.make()) + " | " + packets(scene.make());
+    }
+
+    /** Shows all that waits for its time: queues, waking and idle devices, quiet hours. */
+    private static String ticks(HomeGateway x) {
         StringBuilder text = new StringBuilder();
-        for (int to = 0; to < x.deviceCount(); to++) {
-            int receiver = to;
-            for (int port : new int[] {1, 9, 85}) {
-                text.append(outcome(x, y -> y.arrive(0, receiver, port, 3))).append(' ');
-                text.append(outcome(x, y -> y.arrive(-1, receiver, port, 29))).append(' ');
-            }
-        }
         for (int i = 0; i < TICKS; i++) {
             text.append(outcome(x, y -> y.tick(1))).append(": ").append(now(x)).append(' ');
         }
         return text.toString();
+    }
+
+    /** Shows the limit, the wake ports and the rules too, and in what order packets leave. */
+    private static String packets(HomeGateway x) {
+        int devices = x.deviceCount();
+        StringBuilder text = new StringBuilder();
+        for (int to = 0; to < devices; to++) {
+            int receiver = to;
+            for (int port : new int[] {1, 9, 85}) {
+                text.append(outcome(x, y -> y.arrive(0, receiver, port, 3))).append(' ');
+                text.append(outcome(x, y -> y.arrive(-1, receiver, port, 29))).append(' ');
+                text.append(outcome(x, y -> y.arrive(0, receiver, port, 1))).append(' ');
+            }
+        }
+        return text + ticks(x);
     }
 
     static String input(HomeGateway x) {

@@ -28,16 +28,13 @@ public final class ChangeBoundsTest {
     }
 
     private static void change(String what, Story.Scene scene, Story.Call call, long answer) {
-        HomeGateway before = scene.make();
-        int left = before.undo();
+        int left = scene.make().undo();
         HomeGateway x = scene.make();
         Check.same(what, Story.outcome(x, call), String.valueOf(answer));
         Check.same("undo of " + what, x.undo(), Math.min(left + 1, EIGHT - 1));
-        Check.same("after undo of " + what, Story.future(x), Story.future(scene.make()));
-        HomeGateway y = scene.make();
-        call.on(y);
-        y.undo();
-        Check.same("undo again after " + what, y.undo(), Math.min(left, EIGHT - 2));
+        Check.same("undo again after " + what, x.undo(), Math.min(left, EIGHT - 2));
+        Check.same("after undo of " + what, Story.futures(Story.after(scene, y -> call.on(y) + y.undo())),
+                Story.futures(scene));
     }
 
     private static void theChangingMethods() {
@@ -246,7 +243,8 @@ public final class ChangeBoundsTest {
         Check.same("checksum", x.checksum(), 0);
         Check.state("no gateway", () -> x.tick(1));
         Check.same("load again", Check.load(x, Scenes.HOUSE), Scenes.DEVICES);
-        Check.same("as at first", Story.future(x), Story.future(Check.loaded(Scenes.HOUSE)));
+        Check.same("as at first", Story.futures(() -> Check.loaded(Scenes.HOUSE)), Story.futures(
+                Story.after(Scenes::undone, y -> y.load(0) + Check.load(y, Scenes.HOUSE))));
     }
 
     private static void undoOfALaterLoad() {
@@ -254,13 +252,16 @@ public final class ChangeBoundsTest {
         for (String text : new String[] {"gateway 1 1;", "gateway 9 99;device home 9 9 99;limit 1;",
             "gateway 9 99;" + "device guest 9 9 99;".repeat(10) + "deny any any 0 999;".repeat(12)
             + "quiet home 0 98;wake 1 2 3 4 5 6 7 8;"}) {
-            HomeGateway x = Scenes.busy();
-            x.load(0);
-            Check.yes("load", Check.load(x, text) >= 0);
-            x.tick(1);
-            Check.same("undo of tick", x.undo(), 7);
-            Check.same("undo of load", x.undo(), 6);
-            Check.same("the old house", Story.future(x), Story.future(Scenes.busy()));
+            Story.Scene old = () -> {
+                HomeGateway x = Scenes.busy();
+                x.load(0);
+                Check.yes("load", Check.load(x, text) >= 0);
+                x.tick(1);
+                Check.same("undo of tick", x.undo(), 7);
+                Check.same("undo of load", x.undo(), 6);
+                return x;
+            };
+            Check.same("the old house", Story.futures(old), Story.futures(Scenes::busy));
         }
     }
 

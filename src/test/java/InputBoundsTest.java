@@ -181,19 +181,35 @@ public final class InputBoundsTest {
         Check.same("errorOffset of " + length + " bytes of " + text, x.errorOffset(), offset);
     }
 
+    /** Whatever was there before, or has just been refused or foretold, nothing of it is left. */
     private static void loadReplacesAll() {
         Check.sentence("replaces all data by it");
-        String text = "gateway 4 3;device iot 2 1 3;device home 1 0 0;";
-        HomeGateway old = Scenes.busy();
-        old.load(0);
-        Check.same("load", Check.load(old, text), 2);
-        Check.same("as in a new object", Story.future(old), Story.future(Check.loaded(text)));
-        HomeGateway none = Scenes.fullOfRules();
-        none.load(0);
-        Check.same("load without devices", Check.load(none, "gateway 1 1;"), 0);
-        Check.same("deviceCount", none.deviceCount(), 0);
-        Check.same("ruleCount", none.ruleCount(), 0);
-        Check.outside("state(0)", () -> none.state(0));
+        String rich = "gateway 9 3;" + "device guest 9 9 1;".repeat(10) + "deny any any 0 999;".repeat(12)
+                + "quiet home 0 2;quiet guest 0 2;quiet iot 0 2;wake 1 9 85;limit 1;";
+        for (String text : new String[] {"gateway 4 3;device iot 2 1 3;device home 1 0 0;", "gateway 1 1;", rich}) {
+            replaces("a busy house", text, InputBoundsTest::busyAndEmpty);
+            replaces("many devices and rules", text, () -> Check.loaded(rich));
+            replaces("an error", text, () -> after(HomeGateway::new, x -> Check.load(x, rich + "x")));
+            replaces("an error in a busy house", text,
+                    () -> after(InputBoundsTest::busyAndEmpty, x -> Check.load(x, rich + "x")));
+            replaces("drainTime", text, () -> after(InputBoundsTest::busyAndEmpty, x -> x.drainTime(300)));
+            replaces("drainTime of sleepers", text,
+                    () -> after(() -> Check.loaded("gateway 1 9;device home 1 1 2;device home 1 1 1;"),
+                            x -> 10 * x.arrive(0, 0, 1, 3) + x.drainTime(300)));
+        }
+    }
+
+    private static HomeGateway after(Story.Scene scene, Story.Call call) {
+        return Story.after(scene, call).make();
+    }
+
+    private static void replaces(String before, String text, Story.Scene scene) {
+        Story.Call load = x -> Check.load(x, text);
+        Check.same("load after " + before, Story.futures(Story.after(scene, load)),
+                Story.futures(() -> Check.loaded(text)));
+        HomeGateway x = Story.after(scene, load).make();
+        int devices = x.deviceCount();
+        Check.outside("beyond the last device after " + before, () -> x.state(devices));
     }
 
     private static void countsAfterLoad() {

@@ -431,10 +431,10 @@ public final class PacketBoundsTest {
         Check.same("queueLength", x.queueLength(0), 507);
         Check.same("the 512th call", x.backlog(0), 507);
         HomeGateway y = Check.loaded("gateway 100 1;device home 1 0 0;limit 999;");
-        for (int i = 0; i < 507; i++) {
+        for (int i = 0; i < 506; i++) {
             y.arrive(0, 0, 1, 1);
         }
         Check.same("the first 500 leave", y.tick(5), 500);
-        Check.same("7 stay", y.queueLength(0), 7);
+        Check.same("the 512th call", y.queueLength(0), 6);
     }
 }

@@ -309,9 +309,10 @@ public final class RuleBoundsTest {
         open("allow net home 0 999;allow net guest 0 999;allow net net 0 999;", 0, 1000);
         StringBuilder many = new StringBuilder();
         for (int i = 0; i < 12; i++) {
-            many.append("allow net any ").append(80 * i).append(' ').append(80 * i + i).append(';');
+            many.append("allow net any ").append(80 * i + 5).append(' ').append(81 * i + 5).append(';');
         }
         open(many.toString(), 78, 1000);
+        open(many.toString().replace("allow net", "deny any"), 0, 922);
     }
 
     private static void selectorsOfAddRule() {

@@ -42,6 +42,7 @@ public final class SetupBoundsTest {
         grammarOfLimit();
         numbers();
         words();
+        otherWords();
         longRuns();
         spaces();
         noOtherByteSeparates();
@@ -64,7 +65,15 @@ public final class SetupBoundsTest {
         return good(text, 0, 0);
     }
 
+    /** A second error behind the first one does not count, so the text is read with one too. */
     private static void bad(String text, int code, int offset) {
+        badText(text, code, offset);
+        if (offset < text.length() && text.length() < 890) {
+            badText(text + " ?", code, offset);
+        }
+    }
+
+    private static void badText(String text, int code, int offset) {
         HomeGateway x = new HomeGateway();
         Check.same("load of " + text, Check.load(x, text), code);
         Check.same("errorOffset of " + text, x.errorOffset(), offset);
@@ -497,6 +506,27 @@ public final class SetupBoundsTest {
         badAt(HEAD + "@" + (char) ('l' + 128) + "imit 5;", SYNTAX);
     }
 
+    /** Each letter of each word counts, and that there is none behind the last one. */
+    private static void otherWords() {
+        Check.sentence("a token that the grammar does not allow here, at its first byte");
+        String[] texts = {"@gateway 7 24;", HEAD + "@device home 1 1 1;", HEAD + "@allow any any 1 1;",
+            HEAD + "@deny any any 1 1;", HEAD + "@wake 1;", HEAD + "@quiet home 1 1;", HEAD + "@limit 1;",
+            HEAD + "device @home 1 1 1;", HEAD + "device @guest 1 1 1;", HEAD + "device @iot 1 1 1;",
+            HEAD + "allow @home any 1 1;", HEAD + "allow @guest any 1 1;", HEAD + "allow @iot any 1 1;",
+            HEAD + "allow @net any 1 1;", HEAD + "allow any @any 1 1;", HEAD + "deny any @net 1 1;",
+            HEAD + "quiet @home 1 1;", HEAD + "quiet @guest 1 1;", HEAD + "quiet @iot 1 1;"};
+        for (String text : texts) {
+            int start = text.indexOf('@') + 1;
+            int end = text.indexOf(' ', start);
+            for (int i = start; i < end; i++) {
+                badAt(text.substring(0, i) + 'j' + text.substring(i + 1), SYNTAX);
+            }
+            badAt(text.substring(0, end) + 'a' + text.substring(end), SYNTAX);
+            badAt(text.substring(0, end) + 'z' + text.substring(end), SYNTAX);
+            badAt(text.substring(0, end - 1) + text.substring(end), SYNTAX);
+        }
+    }
+
     private static void longRuns() {
         Check.sentence("Each run is as long as possible");
         good("gateway7 24;device home9 9 99;allow any any1 1;wake1 2;quiet home1 2;limit5;", 1, 1);
@@ -511,12 +541,12 @@ public final class SetupBoundsTest {
 
     private static void spaces() {
         Check.sentence("Spaces (byte 32) may precede any token and may follow the last one");
-        String text = "gateway 7 24 ; device home 1 2 3 ; allow net any 4 5 ; deny iot guest 6 7 ; wake 8 9 ; "
-                + "quiet iot 10 11 ; limit 12 ; ";
-        HomeGateway plain = good("gateway 7 24;device home 1 2 3;allow net any 4 5;deny iot guest 6 7;wake 8 9;"
-                + "quiet iot 10 11;limit 12;", 1, 2);
-        HomeGateway wide = good("   " + text.replace(" ", "    "), 1, 2);
-        Check.same("wide", Story.future(wide), Story.future(plain));
+        String plain = "gateway 7 24;device home 1 2 3;allow net any 80 85;deny iot guest 6 7;wake 8 9;"
+                + "quiet home 2 4;limit 12;";
+        String wide = "   " + plain.replace(";", " ; ").replace(" ", "    ");
+        good(plain, 1, 2);
+        good(wide, 1, 2);
+        Check.same("wide", Story.futures(() -> Check.loaded(wide)), Story.futures(() -> Check.loaded(plain)));
         good("gateway 7 24;" + " ".repeat(887));
         good(" ".repeat(887) + "gateway 7 24;");
     }

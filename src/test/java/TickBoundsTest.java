@@ -78,14 +78,17 @@ public final class TickBoundsTest {
         Check.same("clock", x.clock(), 103);
         Check.same("the rest", x.tick(99), 7);
         Check.same("clock", x.clock(), 202);
-        HomeGateway whole = Scenes.busy();
-        HomeGateway parts = Scenes.busy();
+        Check.same("9 ticks at once", Scenes.busy().tick(9), nineTicks(Scenes.busy()));
+        Check.same("9 ticks at once", Story.futures(Story.after(Scenes::busy, y -> y.tick(9))),
+                Story.futures(Story.after(Scenes::busy, TickBoundsTest::nineTicks)));
+    }
+
+    private static long nineTicks(HomeGateway x) {
         int delivered = 0;
         for (int i = 0; i < 9; i++) {
-            delivered += parts.tick(1);
+            delivered += x.tick(1);
         }
-        Check.same("9 ticks at once", whole.tick(9), delivered);
-        Check.same("9 ticks at once", Story.future(whole), Story.future(parts));
+        return delivered;
     }
 
     /** 512 calls of 100 ticks do not reach the end; the sentence is kept all the same. */
@@ -503,7 +506,7 @@ public final class TickBoundsTest {
     private static void fairness() {
         Check.sentence("The result is (int) (1000.0f * s * s / (n * q)), where n is the number of devices");
         Check.same("one device", fairnessOf(new int[] {1}, new int[] {99}), 1000);
-        Check.same("one device, 1", fairnessOf(new int[] {9}, new int[] {1}), 1000);
+        Check.same("one device, of weight 9", fairnessOf(new int[] {9}, new int[] {1}), 1000);
         Check.same("one of two", fairnessOf(new int[] {1, 1}, new int[] {5, 0}), 500);
         Check.same("the last of two", fairnessOf(new int[] {1, 1}, new int[] {0, 5}), 500);
         Check.same("one of ten", fairnessOf(new int[] {1, 1, 1, 1, 1, 1, 1, 1, 1, 1}, new int[] {7}), 100);
@@ -518,6 +521,7 @@ public final class TickBoundsTest {
     /** Another order of the computations, or double, would answer one more or one less in each case. */
     private static void floatFromLeftToRight() {
         Check.sentence("All computations are in float, from left to right");
+        Check.same("just below 1000", fairnessOf(new int[] {9}, new int[] {62}), 999);
         Check.same("not double, not 1000 * (s * s)", fairnessOf(new int[] {7, 4}, new int[] {88, 0}), 500);
         Check.same("not s * s / (n * q) * 1000", fairnessOf(new int[] {5, 9}, new int[] {0, 79}), 499);
         Check.same("not 1000 * s * s / n / q", fairnessOf(new int[] {5, 5, 7, 6, 2, 9, 9, 3, 9, 5},
