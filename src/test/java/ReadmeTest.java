@@ -18,6 +18,7 @@ public final class ReadmeTest {
     private static final Path README = Path.of("README.md");
     private static final Pattern BLOCK = Pattern.compile("^```java\\n(.*?)^```$", Pattern.DOTALL | Pattern.MULTILINE);
     private static final Pattern ANSWERED = Pattern.compile("(x\\.(\\w+)\\(.*\\)); *// (throws )?(-?\\w+)(: .*)?");
+    private static final Pattern STATEMENT = Pattern.compile("^\\| `([^`]*;)` \\|", Pattern.MULTILINE);
     private static final String[] SHOWN = {"load", "arrive", "tick", "undo"};
 
     private ReadmeTest() {
@@ -38,7 +39,20 @@ public final class ReadmeTest {
                 + "catch (Exception thrown) { got = \"throws.\" + thrown.getClass().getSimpleName(); }\n"
                 + "Check.same(\"README: \" + call, got, want);\n"
                 + "}\n}\n");
+        statementsOfTheTable();
         Check.end();
+    }
+
+    /** They are a setup text, one after the other. */
+    private static void statementsOfTheTable() throws IOException {
+        StringBuilder text = new StringBuilder();
+        Matcher statement = STATEMENT.matcher(Files.readString(README));
+        while (statement.find()) {
+            text.append(statement.group(1));
+        }
+        HomeGateway x = new HomeGateway();
+        Check.same("README: load of " + text, Check.load(x, text.toString()), 1);
+        Check.same("README: rules of " + text, x.ruleCount(), 1);
     }
 
     private static void everyCallHasItsAnswer(String calls) {
